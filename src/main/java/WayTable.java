@@ -306,8 +306,8 @@ public final class WayTable {
             return NONE;
         }
 
-        // The steps are worked out a second time here, since a second row of them, kept only for
-        // tables that fail, would be the dearest thing of the object but one.
+        // What letters lead to is worked out a second time here: a spare row of steps, needed only
+        // when there are too many sets, would take more room than the work saved is worth.
         private void laySteps(Graph graph) {
             for (int set = 0; set < setCount; set++) {
                 for (int letter = 0; letter < letterCount; letter++) {
