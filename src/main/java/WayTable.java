@@ -386,27 +386,19 @@ public final class WayTable {
             return high * (high - 1) / 2 + Math.min(a, b);
         }
 
+        // States come in the order of their leaders: what a set alike with an earlier one leads to
+        // is alike with what that one led to, so that only leaders are first to lead to a state.
         private void numberStates() {
-            Arrays.fill(stateOf, 0, setCount, NONE);
             stateCount = 0;
-            numberState(0);
-            for (int state = 0; state < stateCount; state++) {
-                for (int letter = 0; letter < letterCount; letter++) {
-                    int next = leaderAfter(leaders, leaderOfState[state], letter);
-                    if (next != NONE && stateOf[next] == NONE) {
-                        numberState(next);
-                    }
+            for (int set = 0; set < setCount; set++) {
+                if (leaders[set] == set) {
+                    stateOf[set] = stateCount;
+                    leaderOfState[stateCount] = set;
+                    stateCount++;
+                } else {
+                    stateOf[set] = stateOf[leaders[set]];
                 }
             }
-            for (int set = 0; set < setCount; set++) {
-                stateOf[set] = stateOf[leaders[set]];
-            }
-        }
-
-        private void numberState(int leader) {
-            stateOf[leader] = stateCount;
-            leaderOfState[stateCount] = leader;
-            stateCount++;
         }
 
         private int stateAfter(int from, int letter) {
