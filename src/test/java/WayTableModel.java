@@ -1,5 +1,7 @@
 import java.util.ArrayDeque;
 import java.util.ArrayList;
+import java.util.Arrays;
+import java.util.Collections;
 import java.util.HashMap;
 import java.util.HashSet;
 import java.util.List;
@@ -15,6 +17,7 @@ import java.util.TreeSet;
 public final class WayTableModel {
     private static final int CALLS = 512;
     private static final int RUNS = 1500;
+    private static final int RING_RUNS = 150;
     private static final int TOLD = 20;
 
     private static int wrong = 0;
@@ -23,7 +26,17 @@ public final class WayTableModel {
 
     record Couple(int a, int b) { }
 
-    record Reached(Couple couple, List<Integer> row) { }
+    /** A couple that a letter leads to from another one, or that a search begins with. */
+    record Reached(Couple couple, int letter, Reached before) {
+        List<Integer> rowWith(int last) {
+            List<Integer> row = new ArrayList<>(List.of(last));
+            for (Reached at = this; at.before != null; at = at.before) {
+                row.add(at.letter);
+            }
+            Collections.reverse(row);
+            return row;
+        }
+    }
 
     /** A table, as it was made. */
     static final class Made {
@@ -71,7 +84,7 @@ public final class WayTableModel {
 
         private void number() {
             stateOf = new int[sets.size()];
-            java.util.Arrays.fill(stateOf, -1);
+            Arrays.fill(stateOf, -1);
             giveNumber(0);
             for (int state = 0; state < firstSets.size(); state++) {
                 for (int next : steps.get(firstSets.get(state))) {
@@ -105,7 +118,7 @@ public final class WayTableModel {
         private List<Integer> search(Couple begin) {
             Set<Couple> seen = new HashSet<>();
             ArrayDeque<Reached> queue = new ArrayDeque<>();
-            queue.add(new Reached(begin, List.of()));
+            queue.add(new Reached(begin, -1, null));
             seen.add(begin);
             while (!queue.isEmpty()) {
                 Reached at = queue.remove();
@@ -115,14 +128,12 @@ public final class WayTableModel {
                     if (a < 0 && b < 0) {
                         continue;
                     }
-                    List<Integer> row = new ArrayList<>(at.row());
-                    row.add(letter);
                     if (a < 0 || b < 0) {
-                        return row;
+                        return at.rowWith(letter);
                     }
                     Couple next = new Couple(a, b);
                     if (seen.add(next)) {
-                        queue.add(new Reached(next, row));
+                        queue.add(new Reached(next, letter, at));
                     }
                 }
             }
@@ -312,7 +323,7 @@ public final class WayTableModel {
                 wrong++;
                 if (wrong <= TOLD) {
                     System.out.println("seed " + seed + ", call " + call + ": " + name
-                            + java.util.Arrays.toString(args) + " answered " + got
+                            + Arrays.toString(args) + " answered " + got
                             + ", due is " + want);
                 }
             }
@@ -358,14 +369,63 @@ public final class WayTableModel {
             }
         }
 
+        /** Rings that are walked round at once: many sets, and long rows between them. */
+        void rings() {
+            int letters = 2 + random.nextInt(3);
+            same("begin", table.begin(24, letters), model.begin(24, letters), 24, letters);
+            int first = 2 + random.nextInt(12);
+            int second = 2 + random.nextInt(Math.min(20 - first, 118 / first));
+            int ringLetter = random.nextInt(letters);
+            call = 1;
+            ring(ringLetter, 0, first);
+            ring(ringLetter, first, second);
+            lay(23, ringLetter, 0);
+            lay(23, ringLetter, first);
+            same("start", table.start(23), model.start(23), 23);
+            call++;
+            int gaps = 1 + random.nextInt(3);
+            gapped(0, first, gaps, ringLetter);
+            gapped(first, second, gaps, ringLetter);
+            same("make", table.make(), model.make());
+            for (call++; call < CALLS; call++) {
+                int kind = random.nextInt(400);
+                if (kind < 2) {
+                    same("make", table.make(), model.make());
+                } else if (kind < 10) {
+                    change(random.nextInt(82));
+                } else {
+                    ask(random.nextInt(8));
+                }
+            }
+        }
+
+        void ring(int letter, int first, int size) {
+            for (int k = 0; k < size; k++) {
+                lay(first + k, letter, first + (k + 1) % size);
+            }
+        }
+
+        /** All but a few nodes of a ring go out of it, by other letters than the ring's. */
+        void gapped(int first, int size, int gaps, int ringLetter) {
+            for (int k = gaps; k < size; k++) {
+                int letter = (ringLetter + 1 + random.nextInt(model.letters - 1)) % model.letters;
+                lay(first + k, letter, random.nextInt(8) == 0 ? 23 : 22);
+            }
+        }
+
+        void lay(int from, int letter, int to) {
+            way(from, letter, to, true);
+            call++;
+        }
+
+        void way(int from, int letter, int to, boolean on) {
+            same("way", table.way(from, letter, to, on), model.way(from, letter, to, on),
+                    from, letter, to, on ? 1 : 0);
+        }
+
         void change(int kind) {
             if (kind < 82) {
-                int from = node();
-                int letter = letter();
-                int to = node();
-                boolean on = random.nextInt(4) != 0;
-                same("way", table.way(from, letter, to, on), model.way(from, letter, to, on),
-                        from, letter, to, on ? 1 : 0);
+                way(node(), letter(), node(), random.nextInt(4) != 0);
             } else if (kind < 84) {
                 int letter = letter();
                 int to = node();
@@ -422,9 +482,13 @@ public final class WayTableModel {
     public static void main(String[] args) {
         int most = 0;
         int longest = 0;
-        for (int seed = 0; seed < RUNS; seed++) {
+        for (int seed = 0; seed < RUNS + RING_RUNS; seed++) {
             Run run = new Run(seed);
-            run.everything();
+            if (seed < RUNS) {
+                run.everything();
+            } else {
+                run.rings();
+            }
             most = Math.max(most, run.model.made.states());
             longest = Math.max(longest, run.model.made.longest());
         }

@@ -1,4 +1,7 @@
-/** One test for each promise of the document: ordinary inputs, edges and wrong inputs. */
+/**
+ * One test for each promise of the document: ordinary inputs, edges and wrong inputs; and one for
+ * the lines that README.md shows.
+ */
 public final class WayTablePromises {
     private static final int LOW = Integer.MIN_VALUE;
     private static final int HIGH = Integer.MAX_VALUE;
@@ -504,6 +507,22 @@ public final class WayTablePromises {
         due("look(10)", x.look(10), -1);
     }
 
+    private static void readme() {
+        promise = "README.md";
+        WayTable x = begun(3, 2);
+        on(x, 0, 0, 1);
+        on(x, 0, 0, 2);
+        on(x, 1, 1, 0);
+        due("make()", x.make(), 2);
+        due("to(0, 0)", x.to(0, 0), 1);
+        due("nodes(1)", x.nodes(1), 6);
+        due("apart(0, 1)", x.apart(0, 1), 1);
+        due("apartBy(0, 1, 0)", x.apartBy(0, 1, 0), 0);
+        due("go(0)", x.go(0), 1);
+        due("go(0) again", x.go(0), WayTable.NONE);
+        due("look(9)", x.look(9), 1);
+    }
+
     public static void main(String[] args) {
         newObject();
         beginPromise();
@@ -521,6 +540,7 @@ public final class WayTablePromises {
         apartByPromise();
         isPromise();
         lookPromise();
+        readme();
         System.out.println(wrong == 0 ? "all promises hold" : wrong + " answers are not as due");
         if (wrong != 0) {
             System.exit(1);
